@@ -1,0 +1,214 @@
+/** Promises 36 to 41: what would be. */
+final class ForecastTest {
+    private static final int[] NO_STALL = {-1, 4, 6, Integer.MIN_VALUE, Integer.MAX_VALUE};
+    private static final int[] NO_DAYS = {0, 61, -1, Integer.MIN_VALUE, Integer.MAX_VALUE};
+
+    private static OldMeasures marketOf(int tolerance, int... wears) {
+        OldMeasures x = new OldMeasures();
+        x.setTolerance(tolerance);
+        for (int wear : wears) {
+            x.addStall(wear);
+        }
+        return x;
+    }
+
+    /** In the midst of things: day 7, four stalls that stand anywhere. */
+    private static OldMeasures busyMarket() {
+        OldMeasures x = marketOf(21, 9, -7, 1);
+        x.addMeasure(0, 5, 3);
+        x.addMeasure(1, 2, 7);
+        x.setStandard(1);
+        x.passDays(7);
+        x.addStall(-4);
+        return x;
+    }
+
+    public static void main(String[] args) {
+        driftIn();
+        finesIn();
+        daysUntilFined();
+        bestDayAt();
+        asItComes();
+        meanDrift();
+        digestOfNew();
+        digestOfBusy();
+        refuses();
+        Check.end("ForecastTest");
+    }
+
+    private static void driftIn() {
+        OldMeasures x = marketOf(10, 5);
+        Check.due("36: a day", x.driftIn(0, 1), 5);
+        Check.due("36: two days", x.driftIn(0, 2), 10);
+        Check.due("36: fined", x.driftIn(0, 3), 0);
+        Check.due("36: and on", x.driftIn(0, 59), 10);
+        Check.due("36: 60 days", x.driftIn(0, 60), 0);
+        OldMeasures two = marketOf(10, 5, -9);
+        Check.due("36: the second is visited on day 1", two.driftIn(1, 2), 0);
+        Check.due("36: the second behind a day", two.driftIn(1, 1), -9);
+        Check.due("36: the first behind two days", two.driftIn(0, 2), 10);
+    }
+
+    private static void finesIn() {
+        OldMeasures none = new OldMeasures();
+        Check.due("37: without stalls", none.finesIn(60), 0);
+        OldMeasures x = marketOf(10, 5);
+        Check.due("37: two days", x.finesIn(2), 0);
+        Check.due("37: three days", x.finesIn(3), 15);
+        Check.due("37: 60 days", x.finesIn(60), 300);
+        Check.due("37: below 0", marketOf(10, -5).finesIn(60), 300);
+        Check.due("37: two stalls", marketOf(10, 5, -9).finesIn(3), 33);
+    }
+
+    private static void daysUntilFined() {
+        Check.due("38: wear 5", marketOf(10, 5).daysUntilFined(0), 3);
+        Check.due("38: wear -5", marketOf(10, -5).daysUntilFined(0), 3);
+        Check.due("38: in the next one", marketOf(8, 9).daysUntilFined(0), 1);
+        Check.due("38: no wear", marketOf(0, 0).daysUntilFined(0), -1);
+        Check.due("38: behind 60", marketOf(59, 1).daysUntilFined(0), 60);
+        Check.due("38: behind 61 is too late", marketOf(60, 1).daysUntilFined(0), -1);
+        OldMeasures x = marketOf(10, 9, 9, 9);
+        Check.due("38: three stalls, the first", x.daysUntilFined(0), 4);
+        Check.due("38: three stalls, the second", x.daysUntilFined(1), 2);
+        Check.due("38: three stalls, the third", x.daysUntilFined(2), 3);
+        x.passDays(1);
+        Check.due("38: a day later, the first", x.daysUntilFined(0), 3);
+        Check.due("38: a day later, the second", x.daysUntilFined(1), 1);
+    }
+
+    private static void bestDayAt() {
+        Check.due("39: of several the fewest", marketOf(10, 5).bestDayAt(0), 2);
+        Check.due("39: wear below 0", marketOf(10, -5).bestDayAt(0), 0);
+        Check.due("39: no wear", marketOf(10, 0).bestDayAt(0), 0);
+        Check.due("39: 30 at most", marketOf(100, 1).bestDayAt(0), 30);
+        Check.due("39: fined each day", marketOf(0, 9).bestDayAt(0), 0);
+        OldMeasures x = marketOf(30, 1);
+        Check.due("39: 30 is honest", x.bestDayAt(0), 30);
+        x.setTolerance(29);
+        Check.due("39: 30 is not", x.bestDayAt(0), 29);
+        x.setTolerance(100);
+        x.passDays(12);
+        x.setWear(0, -1);
+        Check.due("39: now is best", x.bestDayAt(0), 0);
+        x.setTolerance(5);
+        Check.due("39: now is best, though fined", x.bestDayAt(0), 0);
+        x.seal(0);
+        x.setWear(0, -9);
+        x.setTolerance(100);
+        x.passDays(5);
+        Check.due("39: best when its drift is 0 again", x.bestDayAt(0), 7);
+    }
+
+    /** What is foretold is what comes, and asking changes nothing. */
+    private static void asItComes() {
+        OldMeasures x = busyMarket();
+        for (int days = 1; days <= 60; days++) {
+            OldMeasures later = busyMarket();
+            int paid = later.passDays(days);
+            Check.due("37: finesIn(" + days + ")", x.finesIn(days), paid);
+            for (int stall = 0; stall < 4; stall++) {
+                Check.due("36: driftIn(" + stall + ", " + days + ")", x.driftIn(stall, days),
+                        later.driftOf(stall));
+            }
+        }
+        for (int stall = 0; stall < 4; stall++) {
+            int asked = stall;
+            Check.due("39: bestDayAt(" + stall + ")", x.bestDayAt(stall), bestDayByPassing(stall));
+            Check.unchangedBy("36", x, () -> x.driftIn(asked, 60));
+            Check.unchangedBy("38", x, () -> x.daysUntilFined(asked));
+            Check.unchangedBy("39", x, () -> x.bestDayAt(asked));
+        }
+        Check.unchangedBy("37", x, () -> x.finesIn(60));
+        Check.unchangedBy("40", x, () -> x.meanDrift());
+        Check.unchangedBy("41", x, () -> x.digest());
+        Check.due("36 to 41: all as before", Snapshot.of(x), Snapshot.of(busyMarket()));
+    }
+
+    private static int bestDayByPassing(int stall) {
+        OldMeasures x = busyMarket();
+        int best = 0;
+        int greatest = x.driftOf(stall);
+        for (int day = 1; day <= 30; day++) {
+            x.passDays(1);
+            if (x.driftOf(stall) > greatest) {
+                best = day;
+                greatest = x.driftOf(stall);
+            }
+        }
+        return best;
+    }
+
+    private static void meanDrift() {
+        OldMeasures x = new OldMeasures();
+        Check.due("40: without stalls", x.meanDrift(), 0.0);
+        x.setTolerance(100);
+        x.addStall(-9);
+        x.addStall(2);
+        Check.due("40: all at 0", x.meanDrift(), 0.0);
+        x.passDays(1);
+        Check.due("40: -9 and 2", x.meanDrift(), -3.5);
+        x.addStall(-3);
+        Check.due("40: -9, 2 and 0", x.meanDrift(), -7.0 / 3.0);
+        x.passDays(1);
+        Check.due("40: -18, 4 and -3", x.meanDrift(), -17.0 / 3.0);
+        x.seal(0);
+        Check.due("40: 0, 4 and -3", x.meanDrift(), 1.0 / 3.0);
+    }
+
+    private static void digestOfNew() {
+        long[] told = {1, 0, 0, 0, 10, 0, 0, 0, -1, -1, -1, 1, 1, 7, 1, 0};
+        Check.due("41: a new one", new OldMeasures().digest(), mixed(told));
+    }
+
+    private static void digestOfBusy() {
+        OldMeasures x = new OldMeasures();
+        x.addMeasure(0, 2, 3);
+        x.addMeasure(1, 5, 2);
+        x.setStandard(1);
+        x.addStall(7);
+        x.addStall(-3);
+        x.setTolerance(5);
+        x.passDays(3);
+        // Days 0 to 2: 7 pays; -6 pays; 14 pays: the drifts are 0 and -3.
+        // Lengths in sixths of an ell: 6, 4, 10. 7 ells are 42: 4 of 10, 2 left; 28: 2 of 10, 1 of 6,
+        // 2 left; 70: 7 of 10. Of 42, 28 and 70 the best are the ell, the 1, the 2.
+        // Days from 3: the second is visited at -6, so behind 1; the first at 14, so behind 2.
+        long[] told = {
+            3, 2, 3, 1, 5, 27, 2, 1, 0, 0,
+            -1, 3, 2, 4, 0, 0,
+            0, 1, 1, 3, 0, 1,
+            1, 5, 2, 7, 1, 2,
+            0, 7, 1, 5000, 2, 1,
+            -3, -3, 1, 4985, 1, 1,
+        };
+        Check.due("41: a busy one", x.digest(), mixed(told));
+    }
+
+    private static long mixed(long[] told) {
+        long d = 2069;
+        for (long number : told) {
+            d = d * 31 + number;
+        }
+        return d;
+    }
+
+    private static void refuses() {
+        OldMeasures empty = new OldMeasures();
+        Check.outOfBounds("36: without stalls", empty, () -> empty.driftIn(0, 1));
+        Check.outOfBounds("38: without stalls", empty, () -> empty.daysUntilFined(0));
+        Check.outOfBounds("39: without stalls", empty, () -> empty.bestDayAt(0));
+        OldMeasures x = busyMarket();
+        for (int no : NO_STALL) {
+            Check.outOfBounds("36: stall " + no, x, () -> x.driftIn(no, 1));
+            Check.outOfBounds("36: stall " + no + " ahead of 0 days", x, () -> x.driftIn(no, 0));
+            Check.outOfBounds("36: stall " + no + " ahead of 61 days", x, () -> x.driftIn(no, 61));
+            Check.outOfBounds("38: stall " + no, x, () -> x.daysUntilFined(no));
+            Check.outOfBounds("39: stall " + no, x, () -> x.bestDayAt(no));
+        }
+        for (int no : NO_DAYS) {
+            Check.illegal("36: days " + no, x, () -> x.driftIn(0, no));
+            Check.illegal("37: days " + no, x, () -> x.finesIn(no));
+            Check.illegal("37: without stalls, days " + no, empty, () -> empty.finesIn(no));
+        }
+    }
+}
