@@ -32,6 +32,7 @@ final class ForecastTest {
         meanDrift();
         digestOfNew();
         digestOfBusy();
+        digestOfDishonest();
         refuses();
         Check.end("ForecastTest");
     }
@@ -64,6 +65,7 @@ final class ForecastTest {
         Check.due("38: wear 5", marketOf(10, 5).daysUntilFined(0), 3);
         Check.due("38: wear -5", marketOf(10, -5).daysUntilFined(0), 3);
         Check.due("38: in the next one", marketOf(8, 9).daysUntilFined(0), 1);
+        Check.due("38: a fine of 1", marketOf(0, -1).daysUntilFined(0), 1);
         Check.due("38: no wear", marketOf(0, 0).daysUntilFined(0), -1);
         Check.due("38: behind 60", marketOf(59, 1).daysUntilFined(0), 60);
         Check.due("38: behind 61 is too late", marketOf(60, 1).daysUntilFined(0), -1);
@@ -143,6 +145,10 @@ final class ForecastTest {
         Check.due("40: without stalls", x.meanDrift(), 0.0);
         x.setTolerance(100);
         x.addStall(-9);
+        Check.due("40: one stall at 0", x.meanDrift(), 0.0);
+        x.passDays(2);
+        Check.due("40: one stall", x.meanDrift(), -18.0);
+        x.seal(0);
         x.addStall(2);
         Check.due("40: all at 0", x.meanDrift(), 0.0);
         x.passDays(1);
@@ -153,6 +159,10 @@ final class ForecastTest {
         Check.due("40: -18, 4 and -3", x.meanDrift(), -17.0 / 3.0);
         x.seal(0);
         Check.due("40: 0, 4 and -3", x.meanDrift(), 1.0 / 3.0);
+        x.addStall(0);
+        x.addStall(0);
+        x.addStall(0);
+        Check.due("40: six stalls", x.meanDrift(), 1.0 / 6.0);
     }
 
     private static void digestOfNew() {
@@ -182,6 +192,19 @@ final class ForecastTest {
             -3, -3, 1, 4985, 1, 1,
         };
         Check.due("41: a busy one", x.digest(), mixed(told));
+    }
+
+    private static void digestOfDishonest() {
+        OldMeasures x = marketOf(5, 0, 6);
+        x.passDays(1);
+        // The second stands at 6; it pays 12 on day 1, and is at 6 again behind it at most.
+        long[] told = {
+            1, 2, 1, 0, 5, 0, 0, 0, 0, 1,
+            -1, 1, 1, 7, 1, 0,
+            0, 0, 1, 5000, -1, 0,
+            6, 6, 0, 5030, 1, 0,
+        };
+        Check.due("41: one that is not honest", x.digest(), mixed(told));
     }
 
     private static long mixed(long[] told) {

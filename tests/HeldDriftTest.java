@@ -27,12 +27,16 @@ final class HeldDriftTest {
         OldMeasures x = new OldMeasures();
         x.addStall(0);
         x.addStall(wear);
+        put(x, 1, drift);
+        return x;
+    }
+
+    private static void put(OldMeasures x, int stall, int drift) throws ReflectiveOperationException {
         Field stalls = OldMeasures.class.getDeclaredField("stalls");
         stalls.setAccessible(true);
         Field drifts = stalls.getType().getDeclaredField("drifts");
         drifts.setAccessible(true);
-        ((int[]) drifts.get(stalls.get(x)))[1] = drift;
-        return x;
+        ((int[]) drifts.get(stalls.get(x)))[stall] = drift;
     }
 
     private static void held(int drift, int wear, int due) throws ReflectiveOperationException {
@@ -61,5 +65,10 @@ final class HeldDriftTest {
         Check.due("33: at -300", low.lossAt(1, 1, 0), 300);
         Check.due("35: at -300", low.mostGenerous(), 0);
         Check.due("40: at -300", low.meanDrift(), -150.0);
+        put(high, 0, 300);
+        Check.due("34: all at 300", high.mostHonest(), 0);
+        put(low, 0, -300);
+        Check.due("34: all at -300", low.mostHonest(), 0);
+        Check.due("35: all at -300", low.mostGenerous(), 0);
     }
 }
