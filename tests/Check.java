@@ -26,6 +26,11 @@ final class Check {
         count(got.equals(want), call, got, want);
     }
 
+    /** The call answers. */
+    static void taken(String name, Call call) {
+        due(name, thrownBy(call), "nothing");
+    }
+
     /** The call throws just this class, none below it, and the market answers as before. */
     static void refused(String name, Class<? extends RuntimeException> want, OldMeasures market, Call call) {
         String before = Snapshot.of(market);
@@ -48,7 +53,7 @@ final class Check {
     /** The call answers, and the market answers all else as before. */
     static void unchangedBy(String name, OldMeasures market, Call call) {
         String before = Snapshot.of(market);
-        due(name, thrownBy(call), "nothing");
+        taken(name, call);
         due(name + " changes nothing", Snapshot.of(market), before);
     }
 

@@ -1,8 +1,5 @@
-/** Promises 36 to 41: what would be. */
+/** Promises 36 to 40: what would be. */
 final class ForecastTest {
-    private static final int[] NO_STALL = {-1, 4, 6, Integer.MIN_VALUE, Integer.MAX_VALUE};
-    private static final int[] NO_DAYS = {0, 61, -1, Integer.MIN_VALUE, Integer.MAX_VALUE};
-
     private static OldMeasures marketOf(int tolerance, int... wears) {
         OldMeasures x = new OldMeasures();
         x.setTolerance(tolerance);
@@ -29,11 +26,8 @@ final class ForecastTest {
         daysUntilFined();
         bestDayAt();
         asItComes();
+        changesNothing();
         meanDrift();
-        digestOfNew();
-        digestOfBusy();
-        digestOfDishonest();
-        refuses();
         Check.end("ForecastTest");
     }
 
@@ -101,29 +95,36 @@ final class ForecastTest {
         Check.due("39: best when its drift is 0 again", x.bestDayAt(0), 7);
     }
 
-    /** What is foretold is what comes, and asking changes nothing. */
+    /** What is foretold is what comes. */
     private static void asItComes() {
-        OldMeasures x = busyMarket();
         for (int days = 1; days <= 60; days++) {
+            OldMeasures x = busyMarket();
             OldMeasures later = busyMarket();
-            int paid = later.passDays(days);
-            Check.due("37: finesIn(" + days + ")", x.finesIn(days), paid);
+            Check.due("37: finesIn(" + days + ")", x.finesIn(days), later.passDays(days));
             for (int stall = 0; stall < 4; stall++) {
                 Check.due("36: driftIn(" + stall + ", " + days + ")", x.driftIn(stall, days),
                         later.driftOf(stall));
             }
         }
         for (int stall = 0; stall < 4; stall++) {
-            int asked = stall;
-            Check.due("39: bestDayAt(" + stall + ")", x.bestDayAt(stall), bestDayByPassing(stall));
-            Check.unchangedBy("36", x, () -> x.driftIn(asked, 60));
-            Check.unchangedBy("38", x, () -> x.daysUntilFined(asked));
-            Check.unchangedBy("39", x, () -> x.bestDayAt(asked));
+            Check.due("39: bestDayAt(" + stall + ")", busyMarket().bestDayAt(stall), bestDayByPassing(stall));
         }
-        Check.unchangedBy("37", x, () -> x.finesIn(60));
-        Check.unchangedBy("40", x, () -> x.meanDrift());
-        Check.unchangedBy("41", x, () -> x.digest());
-        Check.due("36 to 41: all as before", Snapshot.of(x), Snapshot.of(busyMarket()));
+    }
+
+    private static void changesNothing() {
+        for (int stall = 0; stall < 4; stall++) {
+            int asked = stall;
+            OldMeasures x = busyMarket();
+            Check.unchangedBy("36 to 41, " + stall, x, () -> {
+                x.driftIn(asked, 60);
+                x.finesIn(60);
+                x.daysUntilFined(asked);
+                x.bestDayAt(asked);
+                x.meanDrift();
+                x.digest();
+            });
+            Check.due("36 to 41: later as before, " + stall, x.passDays(60), busyMarket().passDays(60));
+        }
     }
 
     private static int bestDayByPassing(int stall) {
@@ -163,75 +164,5 @@ final class ForecastTest {
         x.addStall(0);
         x.addStall(0);
         Check.due("40: six stalls", x.meanDrift(), 1.0 / 6.0);
-    }
-
-    private static void digestOfNew() {
-        long[] told = {1, 0, 0, 0, 10, 0, 0, 0, -1, -1, -1, 1, 1, 7, 1, 0};
-        Check.due("41: a new one", new OldMeasures().digest(), mixed(told));
-    }
-
-    private static void digestOfBusy() {
-        OldMeasures x = new OldMeasures();
-        x.addMeasure(0, 2, 3);
-        x.addMeasure(1, 5, 2);
-        x.setStandard(1);
-        x.addStall(7);
-        x.addStall(-3);
-        x.setTolerance(5);
-        x.passDays(3);
-        // Days 0 to 2: 7 pays; -6 pays; 14 pays: the drifts are 0 and -3.
-        // Lengths in sixths of an ell: 6, 4, 10. 7 ells are 42: 4 of 10, 2 left; 28: 2 of 10, 1 of 6,
-        // 2 left; 70: 7 of 10. Of 42, 28 and 70 the best are the ell, the 1, the 2.
-        // Days from 3: the second is visited at -6, so behind 1; the first at 14, so behind 2.
-        long[] told = {
-            3, 2, 3, 1, 5, 27, 2, 1, 0, 0,
-            -1, 3, 2, 4, 0, 0,
-            0, 1, 1, 3, 0, 1,
-            1, 5, 2, 7, 1, 2,
-            0, 7, 1, 5000, 2, 1,
-            -3, -3, 1, 4985, 1, 1,
-        };
-        Check.due("41: a busy one", x.digest(), mixed(told));
-    }
-
-    private static void digestOfDishonest() {
-        OldMeasures x = marketOf(5, 0, 6);
-        x.passDays(1);
-        // The second stands at 6; it pays 12 on day 1, and is at 6 again behind it at most.
-        long[] told = {
-            1, 2, 1, 0, 5, 0, 0, 0, 0, 1,
-            -1, 1, 1, 7, 1, 0,
-            0, 0, 1, 5000, -1, 0,
-            6, 6, 0, 5030, 1, 0,
-        };
-        Check.due("41: one that is not honest", x.digest(), mixed(told));
-    }
-
-    private static long mixed(long[] told) {
-        long d = 2069;
-        for (long number : told) {
-            d = d * 31 + number;
-        }
-        return d;
-    }
-
-    private static void refuses() {
-        OldMeasures empty = new OldMeasures();
-        Check.outOfBounds("36: without stalls", empty, () -> empty.driftIn(0, 1));
-        Check.outOfBounds("38: without stalls", empty, () -> empty.daysUntilFined(0));
-        Check.outOfBounds("39: without stalls", empty, () -> empty.bestDayAt(0));
-        OldMeasures x = busyMarket();
-        for (int no : NO_STALL) {
-            Check.outOfBounds("36: stall " + no, x, () -> x.driftIn(no, 1));
-            Check.outOfBounds("36: stall " + no + " ahead of 0 days", x, () -> x.driftIn(no, 0));
-            Check.outOfBounds("36: stall " + no + " ahead of 61 days", x, () -> x.driftIn(no, 61));
-            Check.outOfBounds("38: stall " + no, x, () -> x.daysUntilFined(no));
-            Check.outOfBounds("39: stall " + no, x, () -> x.bestDayAt(no));
-        }
-        for (int no : NO_DAYS) {
-            Check.illegal("36: days " + no, x, () -> x.driftIn(0, no));
-            Check.illegal("37: days " + no, x, () -> x.finesIn(no));
-            Check.illegal("37: without stalls, days " + no, empty, () -> empty.finesIn(no));
-        }
     }
 }

@@ -1,8 +1,5 @@
 /** Promises 23 to 28: lengths. */
 final class LengthsTest {
-    private static final int[] NO_MEASURE = {-1, 5, 7, 8, Integer.MIN_VALUE, Integer.MAX_VALUE};
-    private static final int[] NO_MANY = {0, 201, -1, Integer.MIN_VALUE, Integer.MAX_VALUE};
-
     /** In twelfths of the ell: the ell 12, 1: 9, 2: 4, 3: 9, 4: 30. */
     private static OldMeasures market() {
         OldMeasures x = new OldMeasures();
@@ -21,7 +18,7 @@ final class LengthsTest {
         isTold();
         bestMeasure();
         bounds();
-        refuses();
+        changesNothing();
         Check.end("LengthsTest");
     }
 
@@ -132,21 +129,8 @@ final class LengthsTest {
         Check.due("28: 81 ells", x.bestMeasure(81, 0), 2);
     }
 
-    private static void refuses() {
+    private static void changesNothing() {
         OldMeasures x = market();
-        for (int no : NO_MEASURE) {
-            for (int many : new int[] {1, 0, 201}) {
-                refusesMeasure(x, many, no);
-            }
-        }
-        for (int no : NO_MANY) {
-            Check.illegal("23: many " + no, x, () -> x.convert(no, 0, 1));
-            Check.illegal("24: many " + no, x, () -> x.isExact(no, 0, 1));
-            Check.illegal("25: many " + no, x, () -> x.piecesOf(no, 0, 1));
-            Check.illegal("26: many " + no, x, () -> x.pieces(no, 1));
-            Check.illegal("27: many " + no, x, () -> x.isTold(no, 1));
-            Check.illegal("28: many " + no, x, () -> x.bestMeasure(no, 1));
-        }
         Check.unchangedBy("23 to 28", x, () -> {
             x.convert(7, 2, 1);
             x.isExact(7, 2, 1);
@@ -155,18 +139,5 @@ final class LengthsTest {
             x.isTold(7, 2);
             x.bestMeasure(7, 2);
         });
-    }
-
-    private static void refusesMeasure(OldMeasures x, int many, int no) {
-        String which = " of no measure " + no + ", many " + many;
-        Check.outOfBounds("23: one" + which, x, () -> x.convert(many, no, 0));
-        Check.outOfBounds("23: other" + which, x, () -> x.convert(many, 0, no));
-        Check.outOfBounds("24: one" + which, x, () -> x.isExact(many, no, 0));
-        Check.outOfBounds("24: other" + which, x, () -> x.isExact(many, 0, no));
-        Check.outOfBounds("25: one" + which, x, () -> x.piecesOf(many, no, 0));
-        Check.outOfBounds("25: other" + which, x, () -> x.piecesOf(many, 0, no));
-        Check.outOfBounds("26:" + which, x, () -> x.pieces(many, no));
-        Check.outOfBounds("27:" + which, x, () -> x.isTold(many, no));
-        Check.outOfBounds("28:" + which, x, () -> x.bestMeasure(many, no));
     }
 }

@@ -1,14 +1,8 @@
 /** Promises 1 to 8: a new object, and what changes it. */
 final class MarketTest {
-    private static final int[] NO_RATIO = {0, 10, -1, 11, Integer.MIN_VALUE, Integer.MAX_VALUE};
-    private static final int[] NO_WEAR = {-10, 10, Integer.MIN_VALUE, Integer.MAX_VALUE};
-    private static final int[] NO_DAYS = {0, 61, -1, Integer.MIN_VALUE, Integer.MAX_VALUE};
-    private static final int[] NO_TOLERANCE = {-1, 101, Integer.MIN_VALUE, Integer.MAX_VALUE};
-
     public static void main(String[] args) {
         newObject();
         addMeasure();
-        addMeasureRefuses();
         setStandard();
         addStall();
         setWear();
@@ -54,27 +48,6 @@ final class MarketTest {
         Check.due("2: base of 4", x.baseOf(4), 3);
     }
 
-    private static void addMeasureRefuses() {
-        OldMeasures x = new OldMeasures();
-        x.addMeasure(0, 2, 3);
-        for (int base : new int[] {-1, 2, 3, 8, Integer.MIN_VALUE, Integer.MAX_VALUE}) {
-            Check.outOfBounds("2: base " + base, x, () -> x.addMeasure(base, 1, 1));
-            Check.outOfBounds("2: base " + base + " ahead of many", x, () -> x.addMeasure(base, 0, 10));
-        }
-        for (int no : NO_RATIO) {
-            Check.illegal("2: many " + no, x, () -> x.addMeasure(1, no, 1));
-            Check.illegal("2: parts " + no, x, () -> x.addMeasure(1, 1, no));
-        }
-        for (int added = 2; added < 8; added++) {
-            Check.due("2: number of the next one", x.addMeasure(added - 1, 5, 7), added);
-        }
-        Check.full("2: a ninth measure", x, () -> x.addMeasure(0, 1, 1));
-        Check.full("2: a ninth measure told by the last", x, () -> x.addMeasure(7, 9, 9));
-        Check.outOfBounds("2: base 8 ahead of 8 measures", x, () -> x.addMeasure(8, 1, 1));
-        Check.illegal("2: many 0 ahead of 8 measures", x, () -> x.addMeasure(0, 0, 1));
-        Check.illegal("2: parts 10 ahead of 8 measures", x, () -> x.addMeasure(0, 1, 10));
-    }
-
     private static void setStandard() {
         OldMeasures x = new OldMeasures();
         x.addMeasure(0, 3, 8);
@@ -89,17 +62,11 @@ final class MarketTest {
         Check.due("3: setStandard(1) again", x.setStandard(1), 1);
         Check.due("3: top of 2 in 1", x.lengthTop(2), 5);
         Check.due("3: bottom of 2 in 1", x.lengthBottom(2), 6);
-        for (int no : new int[] {-1, 3, 8, Integer.MIN_VALUE, Integer.MAX_VALUE}) {
-            Check.outOfBounds("3: setStandard(" + no + ")", x, () -> x.setStandard(no));
-        }
         Check.due("3: setStandard(0)", x.setStandard(0), 1);
     }
 
     private static void addStall() {
         OldMeasures x = new OldMeasures();
-        for (int no : NO_WEAR) {
-            Check.illegal("4: addStall(" + no + ")", x, () -> x.addStall(no));
-        }
         Check.due("4: addStall(-9)", x.addStall(-9), 0);
         Check.due("4: addStall(9)", x.addStall(9), 1);
         Check.due("4: wear of 0", x.wearOf(0), -9);
@@ -111,15 +78,10 @@ final class MarketTest {
         Check.due("4: addStall(2)", x.addStall(2), 4);
         Check.due("4: addStall(3)", x.addStall(3), 5);
         Check.due("4: stalls()", x.stalls(), 6);
-        Check.full("4: a seventh stall", x, () -> x.addStall(0));
-        for (int no : NO_WEAR) {
-            Check.illegal("4: wear " + no + " ahead of 6 stalls", x, () -> x.addStall(no));
-        }
     }
 
     private static void setWear() {
         OldMeasures x = new OldMeasures();
-        Check.outOfBounds("5: without stalls", x, () -> x.setWear(0, 1));
         x.addStall(3);
         x.addStall(4);
         x.setTolerance(100);
@@ -131,18 +93,10 @@ final class MarketTest {
         Check.due("5: drift of 1 stays", x.driftOf(1), 8);
         x.passDays(1);
         Check.due("5: drift of 1 with its new wear", x.driftOf(1), 17);
-        for (int no : NO_WEAR) {
-            Check.illegal("5: setWear(0, " + no + ")", x, () -> x.setWear(0, no));
-            Check.outOfBounds("5: setWear(2, " + no + ")", x, () -> x.setWear(2, no));
-        }
-        for (int no : new int[] {-1, 2, 6, Integer.MIN_VALUE, Integer.MAX_VALUE}) {
-            Check.outOfBounds("5: setWear(" + no + ", 1)", x, () -> x.setWear(no, 1));
-        }
     }
 
     private static void seal() {
         OldMeasures x = new OldMeasures();
-        Check.outOfBounds("6: without stalls", x, () -> x.seal(0));
         x.addStall(4);
         x.addStall(-3);
         x.setTolerance(100);
@@ -154,9 +108,6 @@ final class MarketTest {
         Check.due("6: seal(1) again", x.seal(1), 0);
         Check.due("6: seal(0)", x.seal(0), 8);
         Check.due("6: no fine", x.fines(), 0);
-        for (int no : new int[] {-1, 2, 6, Integer.MIN_VALUE, Integer.MAX_VALUE}) {
-            Check.outOfBounds("6: seal(" + no + ")", x, () -> x.seal(no));
-        }
     }
 
     private static void setTolerance() {
@@ -165,10 +116,7 @@ final class MarketTest {
         Check.due("7: setTolerance(100)", x.setTolerance(100), 0);
         Check.due("7: tolerance()", x.tolerance(), 100);
         Check.due("7: setTolerance(37)", x.setTolerance(37), 100);
-        for (int no : NO_TOLERANCE) {
-            Check.illegal("7: setTolerance(" + no + ")", x, () -> x.setTolerance(no));
-        }
-        Check.due("7: tolerance() behind them", x.tolerance(), 37);
+        Check.due("7: tolerance() at the end", x.tolerance(), 37);
     }
 
     private static void passDaysOfOneStall() {
@@ -227,9 +175,5 @@ final class MarketTest {
         x.addStall(9);
         Check.due("8: 60 days", x.passDays(60), 540);
         Check.due("8: days()", x.days(), 121);
-        x.passDays(1);
-        for (int no : NO_DAYS) {
-            Check.illegal("8: passDays(" + no + ")", x, () -> x.passDays(no));
-        }
     }
 }
