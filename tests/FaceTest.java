@@ -70,20 +70,25 @@ final class FaceTest {
             }
         }
         Check.due("the face", told.toString(), due.toString());
-        for (Method method : market.getDeclaredMethods()) {
-            if (Modifier.isPrivate(method.getModifiers())) {
-                Check.due("a private " + method.getName(), publicNames.contains(method.getName()), false);
-            }
-        }
+        privateNames(market, publicNames);
         Constructor<?>[] constructors = market.getDeclaredConstructors();
         Check.due("constructors", constructors.length, 1);
         Check.due("the constructor", constructors[0].toGenericString(), "public OldMeasures()");
         fields(market);
         for (Class<?> inside : market.getDeclaredClasses()) {
             Check.due("static " + inside.getName(), Modifier.isStatic(inside.getModifiers()), true);
+            privateNames(inside, publicNames);
             fields(inside);
         }
         Check.end("FaceTest");
+    }
+
+    private static void privateNames(Class<?> owner, Set<String> publicNames) {
+        for (Method method : owner.getDeclaredMethods()) {
+            if (Modifier.isPrivate(method.getModifiers())) {
+                Check.due("a private " + method.getName(), publicNames.contains(method.getName()), false);
+            }
+        }
     }
 
     private static void fields(Class<?> owner) {
